@@ -814,7 +814,6 @@ public final class Seatrush {
             int least = sum;
             leasts[0] = sum;
             for (int used = 1; used < CODE_SETS; used++) {
-                leasts[used] = sum;
                 if ((used & codes) == used && isAllowed(used)) {
                     leasts[used] = leastByLast(sum, used);
                     least = Math.min(least, leasts[used]);

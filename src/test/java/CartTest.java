@@ -15,6 +15,7 @@ public final class CartTest {
         ticks();
         giving();
         cancelling();
+        cancellingOneOfTwo();
         cancelledSeatsAgain();
         Script.end();
     }
@@ -299,6 +300,29 @@ public final class CartTest {
             hold(2, 1, 1) = throws.IllegalStateException
             tick(3) = 5; cartOf(2) = w; tick(1) = 6; cartOf(2) = n; money() = 60
             cancel(0) = 0; cancel(1) = 60; money() = 0; isSound() = true
+            """);
+    }
+
+    private static void cancellingOneOfTwo() {
+        Script.run("promise 23: the holds and the list of another night stay", """
+            addRow(1, 0, 0) = 0; addRow(1, 0, 9) = 1; addNight() = 0; addNight() = 1; setRate(5) = 2
+            join(0) = 1; join(1) = 2; join(2) = 3; join(3) = 4; join(4) = 5; tick(1) = 1
+            hold(0, 0, 1) = 10; hold(1, 1, 1) = 10
+            waitFor(2, 0, 2) = 1; waitFor(3, 1, 2) = 2; waitFor(4, 1, 3) = 3
+            cancel(0) = 0
+            cartOf(0) = n; stateOf(0, 1, 0) = k; cartOf(1) = h; stateOf(1, 1, 0) = h
+            waitFor(3, 1, 2) = throws.IllegalStateException
+            setFree(0, 1, 0, true) = true; hold(2, 0, 1) = 10; drop(2) = 1
+            drop(1) = 1; tick(1) = 2; cartOf(2) = n; cartOf(3) = n
+            waitFor(0, 1, 2) = 3; waitFor(2, 0, 2) = 4
+            """);
+        Script.run("promise 21: each one in the list waits for a night", """
+            addRow(2, 0, 0) = 0; addNight() = 0; addNight() = 1; setRate(5) = 2
+            join(0) = 1; join(1) = 2; join(2) = 3; join(3) = 4; tick(1) = 1
+            hold(0, 0, 2) = 20; hold(1, 1, 1) = 10
+            waitFor(2, 0, 1) = 1; waitFor(3, 1, 2) = 2
+            leave(2) = true; drop(1) = 1
+            tick(1) = 2; cartOf(3) = h; stateOf(1, 0, 0) = h
             """);
     }
 

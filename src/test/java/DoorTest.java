@@ -86,6 +86,11 @@ public final class DoorTest {
             connect(0, true) = 3
             enter(0, 1, 0, 1) = false; enter(1, 1, 0, 0) = false
             """);
+        Script.run("promise 24: a seat of each row is its own", """
+            addRow(2, 0, 0) = 0; addRow(2, 0, 0) = 1; addNight() = 0; join(0) = 1; join(1) = 2; tick(1) = 1
+            hold(0, 0, 2) = 20; hold(1, 0, 2) = 20; pay(0, 0, 1) = 20; pay(1, 0, 1) = 20; tick(1) = 2
+            enter(0, 0, 0, 1) = true; enter(0, 0, 1, 0) = true; enter(0, 0, 1, 1) = true; enter(0, 0, 0, 0) = true
+            """);
         Script.run("promise 25: a seat of each night is its own", SOLD + """
             connect(0, false) = 0
             enter(0, 0, 0, 0) = true; enter(1, 1, 0, 0) = true

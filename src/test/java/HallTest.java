@@ -108,6 +108,10 @@ public final class HallTest {
             price(0, 0, 0) = 138; price(0, 1, 0) = 21   # all in use are sold
             cancel(0) = 316; price(0, 0, 0) = 99    # none is in use
             """);
+        Script.run("promise 8: one seat alone", """
+            addRow(1, 0, 0) = 0; addNight() = 0; join(0) = 1; tick(1) = 1
+            hold(0, 0, 1) = 10; price(0, 0, 0) = 10; pay(0, 0, 1) = 10; tick(1) = 2; price(0, 0, 0) = 14
+            """);
     }
 
     private static void freeSeats() {
