@@ -374,19 +374,17 @@ public final class Seatrush {
 
     public double meanPaid() throws ArithmeticException {
         int sold = 0;
-        long paid = 0;
         for (int night = 0; night < nightCount; night++) {
             sold += nights[night].soldCount();
-            paid += nights[night].paidSum();
         }
         if (sold == 0) {
             throw new ArithmeticException();
         }
-        return (double) paid / (double) sold;
+        return (double) paidForSold() / (double) sold;
     }
 
     public boolean isSound() {
-        return isMoneySound() && areHoldsSound() && areSharesSound() && isQueueSound();
+        return paidMoney == paidForSold() && areHoldsSound() && areSharesSound() && isQueueSound();
     }
 
     // ---- What is in range ----
@@ -504,12 +502,12 @@ public final class Seatrush {
 
     // ---- Soundness ----
 
-    private boolean isMoneySound() {
+    private long paidForSold() {
         long paid = 0;
         for (int night = 0; night < nightCount; night++) {
             paid += nights[night].paidSum();
         }
-        return paid == paidMoney;
+        return paid;
     }
 
     private boolean areHoldsSound() {
