@@ -621,6 +621,7 @@ public final class Seatrush {
     /** One night, with the rows that stood in the hall when it was added. */
     private static final class Night {
         private final Hall hall;
+        private final int[] seatCounts = new int[MOST_ROWS];
         private final char[] states = new char[SPOTS];
         private final int[] owners = new int[SPOTS];
         private final int[] payments = new int[SPOTS];
@@ -633,7 +634,10 @@ public final class Seatrush {
         }
 
         void open() {
-            rows = hall.rowCount();
+            rows = Math.min(hall.rowCount(), MOST_ROWS);
+            for (int row = 0; row < rows; row++) {
+                seatCounts[row] = hall.seatsIn(row);
+            }
             markAll(FREE);
         }
 
@@ -643,15 +647,15 @@ public final class Seatrush {
 
         private void markAll(char state) {
             for (int row = 0; row < rows; row++) {
-                mark(row, 0, hall.seatsIn(row), state);
+                mark(row, 0, seatCounts[row], state);
             }
         }
 
         boolean hasSeats(int row, int first, int people) {
-            return row >= 0 && row < rows && row < MOST_ROWS
+            return row >= 0 && row < rows
                     && first >= 0 && first < MOST_SEATS_OF_ROW
                     && people >= 0 && people <= MOST_SEATS_OF_ROW
-                    && first + people <= hall.seatsIn(row) && first + people <= MOST_SEATS_OF_ROW;
+                    && first + people <= seatCounts[row];
         }
 
         private static int spot(int row, int seat) {

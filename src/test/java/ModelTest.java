@@ -42,23 +42,27 @@ public final class ModelTest {
         Script.end();
     }
 
+    /** A third house is spared the calls that throw: as these change nothing, it answers the same too. */
     private boolean isSame(int run) {
         Script house = new Script("run " + run, new Seatrush());
+        Script spared = new Script("spared run " + run, new Seatrush());
         Script model = new Script("model " + run, new Model());
         StringBuilder past = new StringBuilder();
         for (int nth = 0; nth < CALLS; nth++) {
             String call = nth < 12 ? opening(nth) : drawn();
             String want = model.answer(call);
             String got = house.answer(call);
+            String other = want.startsWith("throws.") ? want : spared.answer(call);
             learn(call, want);
             past.append(call).append(" = ").append(want).append('\n');
             note(call, want);
             if (nth == CALLS - 1 || nth % 64 == 63) {
                 got += wholeState(house);
+                other += wholeState(spared);
                 want += wholeState(model);
             }
-            if (!got.equals(want)) {
-                Script.fault(past + "but " + got);
+            if (!got.equals(want) || !other.equals(want)) {
+                Script.fault(past + "but " + got + ", without what throws " + other);
                 return false;
             }
         }

@@ -1,5 +1,7 @@
 import java.lang.reflect.InvocationTargetException;
 import java.lang.reflect.Method;
+import java.util.ArrayList;
+import java.util.List;
 
 /** Runs calls that are written as text, "hold(0, 0, 2) = 80", and counts the answers that are not due. */
 final class Script {
@@ -13,17 +15,54 @@ final class Script {
         this.target = target;
     }
 
-    /** Runs lines of "call = answer; call = answer" on a new house; what follows a # is a comment. */
+    /** A call, and the answer that is due. */
+    record Step(String call, String want) {
+        boolean isThrown() {
+            return want.startsWith("throws.");
+        }
+    }
+
+    /**
+     * Runs lines of "call = answer; call = answer" on a new house; what follows a # is a comment. Then runs them
+     * again without the calls that throw: as these change nothing, the others answer the same.
+     */
     static void run(String name, String lines) {
-        Script script = new Script(name, new Seatrush());
+        List<Step> steps = steps(lines);
+        faults(name, new Seatrush(), steps).forEach(Script::fault);
+        List<Step> others = steps.stream().filter(step -> !step.isThrown()).toList();
+        faults(name + ", without what throws", new Seatrush(), others).forEach(Script::fault);
+    }
+
+    static List<Step> steps(String lines) {
+        List<Step> steps = new ArrayList<>();
         for (String line : lines.split("\n")) {
-            String calls = line.replaceAll("#.*", "");
-            for (String step : calls.split(";")) {
+            for (String step : line.replaceAll("#.*", "").split(";")) {
                 if (!step.isBlank()) {
-                    script.step(step);
+                    steps.add(step(step));
                 }
             }
         }
+        return steps;
+    }
+
+    private static Step step(String text) {
+        String[] sides = text.split(" = ");
+        if (sides.length != 2) {
+            throw new IllegalArgumentException("not a step: " + text);
+        }
+        return new Step(sides[0].trim(), sides[1].trim());
+    }
+
+    static List<String> faults(String name, Object target, List<Step> steps) {
+        Script script = new Script(name, target);
+        List<String> faults = new ArrayList<>();
+        for (Step step : steps) {
+            String got = script.answer(step.call);
+            if (!got.equals(step.want)) {
+                faults.add(name + ": " + step.call + " answered " + got + ", due is " + step.want);
+            }
+        }
+        return faults;
     }
 
     static void end() {
@@ -33,22 +72,7 @@ final class Script {
         }
     }
 
-    private void step(String step) {
-        String[] sides = step.split(" = ");
-        if (sides.length != 2) {
-            throw new IllegalArgumentException("not a step: " + step);
-        }
-        due(sides[0].trim(), sides[1].trim());
-    }
-
-    void due(String call, String want) {
-        String got = answer(call);
-        if (!got.equals(want)) {
-            fault(name + ": " + call + " answered " + got + ", due is " + want);
-        }
-    }
-
-    static void fault(String text) {
+    static synchronized void fault(String text) {
         wrong++;
         System.out.println(text);
     }
@@ -56,37 +80,33 @@ final class Script {
     /** The answer as text; an exception answers "throws." and the name of its very class. */
     String answer(String call) {
         int open = call.indexOf('(');
-        Method method = method(call.substring(0, open));
+        String called = call.substring(0, open);
         String inside = call.substring(open + 1, call.lastIndexOf(')')).trim();
-        String[] words = inside.isEmpty() ? new String[0] : inside.split(",");
-        Class<?>[] types = method.getParameterTypes();
-        if (words.length != types.length) {
-            throw new IllegalArgumentException("other arguments are due: " + call);
+        String[] words = inside.isEmpty() ? new String[0] : inside.split(", *");
+        if (called.equals("peek")) {
+            return Inside.peek(target, words[0]);
         }
-        Object[] arguments = new Object[words.length];
-        for (int i = 0; i < words.length; i++) {
-            arguments[i] = argument(words[i].trim(), types[i]);
+        if (called.equals("put")) {
+            return Inside.put(target, words[0], words[1]);
         }
-        return invoke(method, arguments);
+        return invoke(method(called, words.length), words);
     }
 
-    private Method method(String called) {
+    private Method method(String called, int arguments) {
         for (Method method : target.getClass().getDeclaredMethods()) {
-            if (method.getName().equals(called)) {
+            if (method.getName().equals(called) && method.getParameterCount() == arguments) {
                 return method;
             }
         }
-        throw new IllegalArgumentException("no method " + called);
+        throw new IllegalArgumentException(name + ": no method " + called + " of " + arguments + " arguments");
     }
 
-    private static Object argument(String word, Class<?> type) {
-        if (type == boolean.class) {
-            return Boolean.valueOf(word);
+    private String invoke(Method method, String[] words) {
+        Class<?>[] types = method.getParameterTypes();
+        Object[] arguments = new Object[words.length];
+        for (int i = 0; i < words.length; i++) {
+            arguments[i] = Inside.value(words[i], types[i]);
         }
-        return type == char.class ? (Object) word.charAt(1) : (Object) Integer.valueOf(word);
-    }
-
-    private String invoke(Method method, Object[] arguments) {
         try {
             return String.valueOf(method.invoke(target, arguments));
         } catch (InvocationTargetException e) {
