@@ -99,6 +99,10 @@ public final class FaceTest {
             expect(!Modifier.isPublic(inside.getModifiers()), inside + " is public");
             expect(Modifier.isStatic(inside.getModifiers()), inside + " is not static");
             checkFields(inside);
+            for (Method method : inside.getDeclaredMethods()) {
+                boolean isHidden = Modifier.isPrivate(method.getModifiers());
+                expect(!isHidden || !FACE.contains(" " + method.getName() + "("), method + " bears the name of a public one");
+            }
         }
         for (Field field : checkFields(Seatrush.class)) {
             expect(Modifier.isPrivate(field.getModifiers()), field + " is not private");
