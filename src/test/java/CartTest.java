@@ -13,6 +13,7 @@ public final class CartTest {
         listInOrder();
         listAndLapses();
         ticks();
+        longestUse();
         giving();
         cancelling();
         cancellingOneOfTwo();
@@ -246,6 +247,22 @@ public final class CartTest {
             join(0) = 1; join(1) = 2; join(2) = 3; join(3) = 4; join(4) = 5
             tick(2) = 55; place(3) = 0; place(4) = 1
             """);
+    }
+
+    /** 512 calls, nearly all of them with the most ticks, while all 20 buyers wait for seats that are never there. */
+    private static void longestUse() {
+        StringBuilder calls = new StringBuilder("addRow(1, 0, 0) = 0; addNight() = 0; setRate(5) = 2;");
+        for (int buyer = 0; buyer < 20; buyer++) {
+            calls.append("join(" + buyer + ") = " + (buyer + 1) + ";");
+        }
+        calls.append("tick(4) = 4;");
+        for (int buyer = 0; buyer < 20; buyer++) {
+            calls.append("waitFor(" + buyer + ", 0, 2) = " + (buyer + 1) + ";");
+        }
+        for (int nth = 45; nth <= 510; nth++) {
+            calls.append("tick(50) = " + (4 + 50 * (nth - 44)) + ";");
+        }
+        Script.run("what it is: 512 calls", calls + "hold(19, 0, 1) = 10; isSound() = true");
     }
 
     private static void giving() {
